@@ -760,8 +760,9 @@ public final class Urelementary {
         private void gatherRanks() {
             Arrays.fill(ranks, -1);
             int founded = 0;
-            for (int round = 0; round < count; round++) {
-                int joining = 0;
+            int joining = -1;
+            for (int round = 0; joining != 0 && round < count; round++) {
+                joining = 0;
                 for (int thing = 0; thing < count; thing++) {
                     if (!has(founded, thing) && (told[thing] & ~founded) == 0) {
                         joining |= 1 << thing;
@@ -848,7 +849,9 @@ public final class Urelementary {
 
         private int reachedFrom(int thing) {
             int reached = told[thing];
-            for (int round = 0; round < count; round++) {
+            int before = 0;
+            for (int round = 0; before != reached && round < count; round++) {
+                before = reached;
                 reached |= toldOf(reached);
             }
             return reached;
@@ -2232,7 +2235,9 @@ public final class Urelementary {
         /** Each round but the last one proves a statement more, so there is one round for each at most. */
         private int proved(boolean withChoice, int skipped) {
             int proved = 0;
-            for (int round = 0; round < STATEMENTS; round++) {
+            int before = -1;
+            for (int round = 0; before != proved && round < STATEMENTS; round++) {
+                before = proved;
                 for (int each = 0; each < count; each++) {
                     boolean isAllowed = each != skipped && (withChoice || choices[each] == 0);
                     if (isAllowed && (premises[each] & ~proved) == 0) {
@@ -2246,12 +2251,15 @@ public final class Urelementary {
         /** The cheapest proof is no deeper than there are statements, so that many rounds find it; -1 for none. */
         private int fewestUses(int statement) {
             Arrays.fill(fewest, -1);
-            for (int round = 0; round < STATEMENTS; round++) {
+            boolean moves = true;
+            for (int round = 0; moves && round < STATEMENTS; round++) {
+                moves = false;
                 for (int each = 0; each < count; each++) {
                     int trial = usesBy(each);
                     int conclusion = conclusions[each];
                     if (trial >= 0 && (fewest[conclusion] < 0 || trial < fewest[conclusion])) {
                         fewest[conclusion] = trial;
+                        moves = true;
                     }
                 }
             }
