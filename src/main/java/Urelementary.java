@@ -1463,7 +1463,7 @@ public final class Urelementary {
         }
 
         private int entryAt(int place) {
-            return isBelow(place, room.length) ? room[place] : 0;
+            return place >= 0 && place < room.length ? room[place] : 0;
         }
 
         private int entryOf(int part) {

@@ -573,6 +573,36 @@ public final class PromisesTest {
         x.wipe();
         fails(ARGUMENT, () -> x.holds(0));
         promise23More();
+        promise23Deep();
+    }
+
+    /** A row of 28 sets, each the only element of the next one: deep formulas over all of them come to an end. */
+    private static void promise23Deep() {
+        Urelementary x = theatre();
+        x.set(0);
+        for (int i = 1; i < 28; i++) x.set(1 << (i - 1));
+        x.world((1 << 28) - 1);
+        x.world((1 << 28) - 2);
+        String[] texts = {"ApAqArAsAtApAqArAsAtApAqArAsAtApAqArp=p", "EpEqErEsEtEpEqErEsEtEpEqErEsEtEpEqEr!p=p",
+            "EpEqErEsEt&peq&qer&res&setBpp!p=p", "ApAqArAsAt|!peq|!qer|!res|!set!tep", "ApAqArAsEt&||peq!qerresset",
+            "ApEqArEsAt||!perqes!t=t", "ApBqpBrqBsrBtsSptSqpSrqSsrStss=s"};
+        boolean[] due = {true, false, true, true, false, true, false};
+        for (int i = 0; i < texts.length; i++) {
+            write(x, texts[i]);
+            due(x.fault(), -1);
+            checks++;
+            if (x.holds(0) != due[i]) tell("'" + texts[i] + "' is weighed wrongly");
+            if (x.free() == 0) due(x.isAbsolute(0, 0), true);
+        }
+        write(x, "BqpBrqBsrBtsEpptt");
+        due(x.fault(), 15);
+        write(x, "BqpBrqBsrBtsEppet");
+        due(x.satisfy(0, 'p'), 27);
+        due(x.satisfy(1, 'p'), 26);
+        write(x, "|&peq&resteq!&rep!sep");
+        due(x.isAbsolute(1, 0), true);
+        write(x, "|&peq&resteqEp&peqres");
+        due(x.isAbsolute(1, 0), false);
     }
 
     private static void promise23More() {
