@@ -923,7 +923,7 @@ public final class OracleTest {
         char v = variable();
         switch (below(9)) {
             case 0:
-                int m = someMask(o.told.size(), 1 + below(4));
+                int m = oneIn(4) && !o.told.isEmpty() ? (1 << o.told.size()) - 1 : someMask(o.told.size(), 1 + below(4));
                 if (o.worlds.size() > 4 && !oneIn(4)) return true;
                 return check(log, "world(" + m + ")", () -> x.world(m), () -> o.world(m));
             case 1: case 2: return check(log, "holds(" + w + ")", () -> x.holds(w), () -> o.holds(w));

@@ -405,7 +405,9 @@ public final class PromisesTest {
         Urelementary x = theatre();
         due(x.wipe(), 0);
         write(x, "peq");
+        due(x.fault(), -1);
         due(x.wipe(), 3);
+        due(x.fault(), 0);
         due(x.wipe(), 0);
         due(x.fault(), 0);
         due(x.type('a'), 1);
@@ -485,6 +487,9 @@ public final class PromisesTest {
         fails(ARGUMENT, () -> x.typeOf((char) 65535));
         write(x, "&qep");
         fails(ARGUMENT, () -> x.typeOf('p'));
+        write(x, "Eqqer");
+        fails(LACKING, () -> x.typeOf('p'));
+        due(x.typeOf('r'), 1);
         write(x, "&qep&Asasr=t");
         due(x.typeOf('p'), 1);
         due(x.typeOf('q'), 0);
@@ -655,6 +660,18 @@ public final class PromisesTest {
         write(x, "Eqqep");
         due(x.satisfy(0, 'p'), 3);
         due(x.satisfy(1, 'p'), 0);
+        write(x, "Spp!ap");
+        due(x.satisfy(0, 'p'), 3);
+        write(x, "Bppap");
+        due(x.satisfy(0, 'p'), 2);
+        x.value('p', 2);
+        String[] texts = {"BqpSrq!r=p", "SqpBrqr=p", "BqpArreq", "SqpEr&reqrep", "BqpErqer", "ArBqpEs&qesres"};
+        boolean[] holds = {false, true, false, true, true, false};
+        for (int i = 0; i < texts.length; i++) {
+            write(x, texts[i]);
+            checks++;
+            if (x.holds(0) != holds[i]) tell("'" + texts[i] + "' is weighed wrongly");
+        }
     }
 
     private static void promise25() {
@@ -753,10 +770,18 @@ public final class PromisesTest {
         y.set(1);
         y.world(63);
         due(y.axiom(1, 'c'), true);
-        y.set(1 << 4 | 1 << 5);
-        y.set(1);
-        y.world(1 << 0 | 1 << 1 | 1 << 4 | 1 << 6);
-        due(y.axiom(2, 'c'), true);
+        Urelementary z = theatre();
+        z.atom();
+        z.atom();
+        z.set(3);
+        z.set(1);
+        z.set(2);
+        z.set(1 << 2 | 1 << 3 | 1 << 4);
+        z.world(63);
+        due(z.axiom(0, 'c'), true);
+        z.set(1 << 3 | 1 << 4);
+        z.world(127 & ~(1 << 2));
+        due(z.axiom(1, 'c'), false);
     }
 
     private static void promise26Loops() {
@@ -865,6 +890,15 @@ public final class PromisesTest {
         fails(ARGUMENT, () -> x.swapped(3, 1, 3));
         fails(BOUNDS, () -> x.swapped(-1, 3, 1));
         due(x.things(), 10);
+        Urelementary y = theatre();
+        y.set(0);
+        y.atom();
+        y.atom();
+        y.put(0, 1);
+        fails(LACKING, () -> y.swapped(0, 1, 2));
+        due(y.swapped(0, 1, 1), 0);
+        y.put(0, 2);
+        due(y.swapped(0, 1, 2), 0);
     }
 
     private static void promise30() {
@@ -1058,6 +1092,15 @@ public final class PromisesTest {
         fails(ARGUMENT, () -> x.firstWins(3, 8));
         fails(ARGUMENT, () -> x.firstWins(2, -1));
         fails(ARGUMENT, () -> x.firstWins(33, 0));
+        x.tree(2, 0);
+        for (int won = 0; won < 16; won++) {
+            x.tree(2, won);
+            boolean zero = (won & 3) == 3;
+            boolean one = (won & 12) == 12;
+            due(x.firstWins(1, 0), zero);
+            due(x.firstWins(1, 1), one);
+            due(x.firstWins(0, 0), zero || one);
+        }
     }
 
     private static void promise38() {
@@ -1190,6 +1233,24 @@ public final class PromisesTest {
         isOrdinal(x, x.reckon(4, 7, true), 0, 1);
         fails(UNSUPPORTED, () -> x.reckon(4, 0, false));
         due(x.ordinal(7, 0, 0, 0), 10);
+        Urelementary y = theatre();
+        y.ordinal(3, 2, 0, 0);
+        y.ordinal(0, 5, 0, 0);
+        y.ordinal(0, 0, 0, 2);
+        y.ordinal(1, 0, 0, 0);
+        isOrdinal(y, y.reckon(0, 1, true), 0, 0, 5);
+        isOrdinal(y, y.reckon(2, 2, true), 0, 0, 0, 0, 0, 0, 2);
+        isOrdinal(y, y.reckon(5, 1, true), 0, 0, 0, 0, 0, 0, 0, 5);
+        isOrdinal(y, y.reckon(5, 6, false), 0, 0, 0, 0, 0, 0, 0, 5);
+        isOrdinal(y, y.reckon(6, 5, false), 0, 0, 0, 0, 0, 0, 2, 5);
+        due(y.compare(6, 5), 1);
+        due(y.compare(5, 6), -1);
+        due(y.compare(8, 6), 1);
+        fails(UNSUPPORTED, () -> y.reckon(6, 1, true));
+        isOrdinal(y, y.reckon(8, 3, true), 0, 0, 0, 0, 0, 0, 2, 5);
+        isOrdinal(y, y.reckon(8, 0, false), 3, 2, 0, 0, 0, 0, 2, 5);
+        isOrdinal(y, y.row(8, 4), 0, 0, 0, 0, 0, 4, 1, 5);
+        isOrdinal(y, y.row(6, 4), 0, 0, 0, 0, 0, 0, 4, 4);
     }
 
     private static void promise43() {
