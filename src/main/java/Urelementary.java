@@ -22,7 +22,7 @@ public final class Urelementary {
     private static final String VARIABLE_SIGNS = "pqrst";
     private static final String SIGNS = "pqrste=a!&|AEBS";
     private static final String AXIOMS = "xepuwfcn";
-    private static final float FORM_PAIRS = 132f;
+    private static final int FORM_PAIRS = 132;
 
     private final Things things;
     private final Formula formula;
@@ -546,7 +546,7 @@ public final class Urelementary {
     }
 
     public float knownShare() {
-        return (float) forms.answered() / FORM_PAIRS;
+        return (float) forms.answered() / (float) FORM_PAIRS;
     }
 
     public double meanSize() throws NoSuchElementException {

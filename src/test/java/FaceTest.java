@@ -82,7 +82,9 @@ public final class FaceTest {
         int fields = 0;
         for (Field f : type.getDeclaredFields()) {
             if (Modifier.isStatic(f.getModifiers())) {
+                String kind = f.getType().getSimpleName();
                 if (!Modifier.isFinal(f.getModifiers())) tell("static state: " + f);
+                if (!kind.matches("int|long|boolean|char|String|(int|long|char|byte)\\[\\]")) tell("a static field of a strange type: " + f);
             } else {
                 fields++;
             }
