@@ -1255,7 +1255,7 @@ public final class Urelementary {
      * One variable, the lead, has no place in the tables: each entry has a bit for each thing as its value.
      */
     private static final class Scale {
-        private static final int[] ROOMS = {2048, 65536, 1048576, 4194304};
+        private static final int[] ROOMS = {1024, 32768, 131072, 700000, 3200000};
 
         private final Things things;
         private final Formula formula;

@@ -475,6 +475,15 @@ public final class EdgesTest {
             x.put(6, 6);
             due(false, x.isElement(6, 2));
             due(true, x.isElement(6, 1));
+            Urelementary y = told(0, 2);
+            due(6, y.set(0));
+            y.world(127);
+            y.value('p', 6);
+            write(y, "peq");
+            due(true, y.holds(1));
+            due(true, y.put(6, 6));
+            due(false, y.holds(1));
+            due(true, y.isElement(0, 2));
         });
     }
 
@@ -597,6 +606,15 @@ public final class EdgesTest {
             weighs(x, "SppSppp=p", true);
             weighs(x, "SppSppSppp=p", false);
             write(x, "Bppap");
+            due(3, x.satisfy(0, 'p'));
+            write(x, "Bpp!ap");
+            due(5, x.satisfy(0, 'p'));
+            write(x, "SppSppp=p");
+            due(2, x.satisfy(0, 'p'));
+            x.put(0, 1);
+            write(x, "Bppap");
+            due(2, x.satisfy(0, 'p'));
+            write(x, "Bppap");
             due(1, x.free());
             write(x, "ApBppap");
             due(0, x.free());
@@ -628,6 +646,17 @@ public final class EdgesTest {
             x.put(3, 3);
             weighs(x, "pep", true);
             weighs(x, "peq", true);
+            x.put(0, 0);
+            write(x, "pep");
+            due(4, x.satisfy(0, 'p'));
+            x.put(0, 4);
+            due(2, x.satisfy(0, 'p'));
+            weighs(x, "Eppep", true);
+            weighs(x, "Ap!pep", false);
+            x.world(1 | 1 << 2 | 1 << 4);
+            due(false, x.holds(1));
+            write(x, "pep");
+            due(1, x.satisfy(1, 'p'));
         });
         edge(TERMS, "a variable, = and a variable, they are equal", () -> {
             weighs(told(0, 1), "p=q", false);
@@ -681,6 +710,16 @@ public final class EdgesTest {
             y.value('p', 1);
             weighs(y, "Brp!r=r", true);
             weighs(y, "Srpr=r", false);
+            Urelementary z = told(3, 5);
+            z.value('t', 0);
+            for (String inner : new String[] {"t=t", "EtEs&tessep", "EsArs=r"}) {
+                boolean holds = !inner.equals("EsArs=r");
+                weighs(z, "Srp" + inner, holds);
+                weighs(z, "Brp!" + inner, !holds);
+                weighs(z, "Srq" + inner, holds);
+                weighs(z, "EsSrp&s=s" + inner, holds);
+                weighs(z, "EqSrp&q=r" + inner, holds);
+            }
         });
     }
 
@@ -879,6 +918,9 @@ public final class EdgesTest {
             axiomIs(x -> { x.set(0); x.set(1); x.set(2); x.set(6); x.set(8); }, 31 & ~8, 'u', true);
             axiomIs(x -> { x.set(0); x.set(1); x.set(2); x.set(6); x.set(8); }, 30, 'u', true);
             axiomIs(x -> { x.atom(); x.set(1); x.set(2); x.set(4); }, 15, 'u', false);
+            axiomIs(x -> { x.set(0); x.atom(); x.put(0, 1); }, 3, 'u', false);
+            axiomIs(x -> { x.set(0); x.atom(); x.put(0, 0); x.put(0, 1); x.set(1); }, 7, 'u', true);
+            axiomIs(x -> { for (int i = 0; i < 27; i++) x.set(0); x.atom(); x.put(0, 26); x.put(26, 27); }, 1 | 1 << 26 | 1 << 27, 'u', false);
         });
         termsOfHarderAxioms();
     }
@@ -920,6 +962,15 @@ public final class EdgesTest {
             axiomIs(x -> { family.make(x); x.put(2, 1); x.put(3, 0); }, 31, 'c', false);
             axiomIs(x -> { family.make(x); x.put(2, 1); x.put(3, 0); x.set(1); }, 63, 'c', true);
             axiomIs(x -> { family.make(x); x.set(0); x.put(4, 5); }, 63, 'c', true);
+            Scene turned = x -> { for (int i = 0; i < 3; i++) x.set(0); x.atom(); x.atom(); x.put(0, 1); x.put(0, 2); x.put(1, 3); x.put(2, 4); };
+            axiomIs(turned, 31, 'c', false);
+            axiomIs(x -> { turned.make(x); x.put(1, 4); }, 31, 'c', true);
+            axiomIs(x -> { turned.make(x); x.set(1 << 3 | 1 << 4); }, 63, 'c', true);
+            Scene lowest = x -> { for (int i = 0; i < 3; i++) x.set(0); x.atom(); x.atom(); x.put(2, 0); x.put(2, 1); x.put(0, 3); x.put(1, 4); };
+            axiomIs(lowest, 31, 'c', false);
+            axiomIs(x -> { lowest.make(x); x.put(0, 4); }, 31, 'c', true);
+            axiomIs(x -> { lowest.make(x); x.put(1, 3); }, 31, 'c', true);
+            axiomIs(x -> { lowest.make(x); x.put(0, 4); x.put(1, 3); }, 31, 'c', false);
         });
         edge(TERMS, "'n' there are no atoms", () -> {
             axiomIs(EdgesTest::sixThings, 63, 'n', false);
@@ -1842,6 +1893,18 @@ public final class EdgesTest {
             due(27, x.satisfy(0, 'p'));
             write(x, "!p=p");
             due(0, x.satisfy(0, 'p'));
+            Urelementary y = made(EdgesTest::fullThings);
+            y.world((1 << 28) - 16);
+            String[] texts = {"EqErEsEt&peq&qer&resset", "EqErEsEt&qep&req&sertes", "AqAr|!peq|!qer!per", "EqEr&qep&rep!q=r", "EqAr!rep", "Aq!qep", "EqBrp|r=qqer"};
+            int[] want = {20, 20, 24, 0, 1, 1, 24};
+            for (int i = 0; i < texts.length; i++) {
+                write(y, texts[i]);
+                checks++;
+                if (y.satisfy(0, 'p') != want[i]) tell("'" + texts[i] + "' is satisfied by " + y.satisfy(0, 'p') + ", due is " + want[i]);
+            }
+            y.put(27, 4);
+            write(y, "EqEr&qep&rep!q=r");
+            due(1, y.satisfy(0, 'p'));
         });
         edge(24, "Throws `IllegalArgumentException` if the text is no formula, or there is no such variable", () -> {
             refuses(ARGUMENT, worldsWith("p=p"), each(signsBut("pqrst"), c -> y -> y.satisfy(0, c)));
@@ -1986,6 +2049,12 @@ public final class EdgesTest {
             due(11, x.name());
             for (int i = 0; i < 12; i++) due(0, x.valueOf(i, 11, true));
             due(7, x.valueOf(0, 11, false));
+            Urelementary y = new Urelementary();
+            for (int i = 0; i < 12; i++) {
+                due(i, y.name());
+                for (int j = 0; j <= i; j++) due(3, y.valueOf(i, j, false));
+                due(0, y.nameSupport(i));
+            }
         });
         edge(31, "Throws `IllegalStateException` if there are 12", () -> {
             refuses(STATE, names(4, 12), y -> y.name());
@@ -2075,6 +2144,24 @@ public final class EdgesTest {
             for (int i = 0; i < 4; i++) due(i + 1, x.quotient(i, 1));
             due(6, x.quotient(4, 1));
             due(7, x.things());
+            Urelementary y = made(names(2, 4));
+            y.give(1, 0, 3);
+            y.give(2, 1, 3);
+            y.give(3, 2, 2);
+            due(0, y.quotient(3, 0));
+            due(1, y.things());
+            due(3, y.quotient(3, 1));
+            due(4, y.things());
+            Urelementary z = made(names(1, 4));
+            z.give(2, 0, 1);
+            z.give(2, 1, 1);
+            z.give(3, 1, 1);
+            due(1, z.quotient(2, 0));
+            due(2, z.things());
+            due(1, z.inside(1));
+            due(1, z.quotient(3, 0));
+            due(0, z.quotient(1, 0));
+            due(2, z.things());
         });
         edge(34, "Returns the number of the thing", () -> {
             Urelementary x = made(names(1, 3));
@@ -2547,6 +2634,7 @@ public final class EdgesTest {
             due(1.0 / 3.0, made(x -> { x.set(0); x.set(0); x.set(3); }).meanSize());
             Urelementary all = made(x -> { for (int i = 0; i < 28; i++) x.set((1 << i) - 1); });
             due(378.0 / 28.0, all.meanSize());
+            due(3.0 / 2.0, made(x -> { x.set(0); x.set(0); x.put(0, 0); x.put(0, 1); x.put(1, 0); x.atom(); x.put(0, 2); }).meanSize() - 0.5);
         });
         edge(53, "Throws `NoSuchElementException` if there are none", () -> {
             refuses(LACKING, EdgesTest::nothing, y -> y.meanSize());
