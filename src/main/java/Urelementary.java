@@ -1255,7 +1255,8 @@ public final class Urelementary {
      * One variable, the lead, has no place in the tables: each entry has a bit for each thing as its value.
      */
     private static final class Scale {
-        private static final int[] ROOMS = {1024, 32768, 131072, 700000, 3200000};
+        /** 40 signs need six tables of 28^4 entries at most, and small ones: the last room has no greater one behind it. */
+        private static final int[] ROOMS = {1024, 32768, 131072, 700000, 3750000};
 
         private final Things things;
         private final Formula formula;

@@ -78,6 +78,26 @@ public final class FaceTest {
         if (Urelementary.class.getSuperclass() != Object.class || Urelementary.class.getInterfaces().length > 0) tell("the class extends another one");
     }
 
+    /** Each line of the interface stands in the source, word by word, with its parameters' names, and in its order. */
+    private static void weighWords() throws IOException {
+        String source = Files.readString(Path.of("src", "main", "java", "Urelementary.java"), StandardCharsets.UTF_8);
+        String text = source.replaceAll("\\s+", " ");
+        int from = 0;
+        int lines = 0;
+        for (String line : document().split("\n")) {
+            if (!line.startsWith("    public ") || !line.endsWith(";")) continue;
+            lines++;
+            int at = text.indexOf(line.trim().replace(";", " {"), from);
+            if (at < 0) tell("not so, or not there, in the source: " + line.trim());
+            else from = at;
+        }
+        if (lines != 54) tell("the document's face has " + lines + " lines");
+        for (String line : document().split("\n")) {
+            int at = line.indexOf("the interface says: ");
+            if (at >= 0 && !source.contains("    // " + line.substring(at + 20, line.length() - 1) + "\n")) tell("lacks: " + line.substring(at + 20));
+        }
+    }
+
     private static void weighMembers(Class<?> type, TreeSet<String> names) {
         int fields = 0;
         for (Field f : type.getDeclaredFields()) {
@@ -134,6 +154,7 @@ public final class FaceTest {
 
     public static void main(String[] args) throws IOException {
         weighFace();
+        weighWords();
         weighClasses();
         weighSource();
         System.out.println(wrong == 0 ? "the face and the rules stand" : wrong + " faults");
