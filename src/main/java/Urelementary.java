@@ -1255,7 +1255,7 @@ public final class Urelementary {
      * One variable, the lead, has no place in the tables: each entry has a bit for each thing as its value.
      */
     private static final class Scale {
-        /** 40 signs need six tables of 28^4 entries at most, and small ones: the last room has no greater one behind it. */
+        /** 40 signs need six tables of 28^4 entries at most, and small ones: no run takes a room beyond the last. */
         private static final int[] ROOMS = {1024, 32768, 131072, 700000, 3750000};
 
         private final Things things;
